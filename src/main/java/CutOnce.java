@@ -940,14 +940,13 @@ public final class CutOnce {
         /** Sets down what one must show at a place to fit the border and those that lie there already. */
         private void lookAround(int place) {
             for (int direction = 0; direction < EDGES; direction++) {
+                int next = goal.nextTo(place, direction);
                 int want = ANY;
                 if (goal.isFlat(place, direction)) {
                     // the frame's places are the picture's: its border is where the picture's is
                     want = FLAT;
-                } else if (direction == ABOVE) {
-                    want = fitting[lying[goal.nextTo(place, ABOVE)] * EDGES + BELOW];
-                } else if (direction == LEFT) {
-                    want = fitting[lying[goal.nextTo(place, LEFT)] * EDGES + RIGHT];
+                } else if (next >= 0 && next < place) {
+                    want = fitting[lying[next] * EDGES + (direction + 2) % EDGES];
                 }
                 wanted[place * EDGES + direction] = want;
             }

@@ -9,6 +9,7 @@ public final class KindsTest {
         leastFarness();
         farnessOfTwoInARow();
         flatAreNoStrangers();
+        allPairs();
         madeAlike();
         madeAlikeRefused();
         check.end();
@@ -153,6 +154,47 @@ public final class KindsTest {
         check.due("2 by 2, all bulge alike: traps(0)", x.traps(0), fitting);
         check.due("2 by 2, all bulge alike: traps(9)", x.traps(9), fitting);
         check.due("2 by 2, all bulge alike: traps(10)", x.traps(10), 28 - 4 - 4);
+    }
+
+    /** unlike() and traps() by far() of all pairs. */
+    private static void allPairs() {
+        int[][] measures = {{3, 1}, {1, 4}, {2, 2}, {3, 3}, {4, 3}, {5, 5}};
+        for (int[] m : measures) {
+            for (long seed = 0; seed < 6; seed++) {
+                int[] pairs = new int[91];
+                int least = 91;
+                for (int p = 0; p < m[0] * m[1]; p++) {
+                    for (int q = p + 1; q < m[0] * m[1]; q++) {
+                        // another object for each pair: an object is good for 512 calls
+                        CutOnce x = made(m, seed);
+                        for (int ef = 0; ef < 16; ef++) {
+                            int e = ef / 4;
+                            int f = ef % 4;
+                            if (x.sideOf(p, e) >= 0 && x.sideOf(q, f) >= 0 && x.sideOf(p, e) != x.sideOf(q, f)) {
+                                int far = x.far(p, e, q, f);
+                                least = Math.min(least, far);
+                                pairs[far]++;
+                            }
+                        }
+                    }
+                }
+                CutOnce x = made(m, seed);
+                String what = m[0] + " by " + m[1] + " made from " + seed;
+                check.due(what + ": unlike()", x.unlike(), least);
+                int within = 0;
+                for (int d = 0; d <= 90; d++) {
+                    within += pairs[d];
+                    check.due(what + ": traps(" + d + ")", x.traps(d), within);
+                }
+            }
+        }
+    }
+
+    private static CutOnce made(int[] measures, long seed) {
+        CutOnce x = new CutOnce();
+        x.picture(measures[0], measures[1]);
+        x.make(seed);
+        return x;
     }
 
     private static void madeAlike() {

@@ -307,7 +307,8 @@ public final class PictureTest {
         CutOnce x = sheeted();
         check.due("shape(0, 1, 5, 0, 0)", x.shape(0, 1, 5, 0, 0), 0);
         check.due("shape(2, 0, 0, 0, 3)", x.shape(2, 0, 0, 0, 3), 0);
-        check.due("shape(3, 1, 30, 1, 3)", x.shape(3, 1, 30, 1, 3), 1);
+        check.due("shape(3, 1, 39, 1, 3): no height behind it", x.shape(3, 1, 39, 1, 3), 1);
+        check.due("shape(3, 1, 45, 0, 3): no height, but none is taken", x.shape(3, 1, 45, 0, 3), 0);
         check.due("fault()", x.fault(), 0);
     }
 
