@@ -236,14 +236,9 @@ public final class CutOnce {
     }
 
     public int missed(int what, int i) {
-        boolean lostOne = i >= 0 && i < countMissing(0);
-        boolean doubleOne = i >= 0 && i < countMissing(1);
         if (!isMissingWhat(what)) {
-            // UNKNOWN is told ahead of OUTSIDE: of a place that is in neither row
-            return lostOne || doubleOne ? OUTSIDE : UNKNOWN;
-        }
-        if (what == 0 ? !lostOne : !doubleOne) {
-            return UNKNOWN;
+            // asks for no row, so there is no place in it to be UNKNOWN
+            return OUTSIDE;
         }
         return missingPiece(what, i);
     }

@@ -169,17 +169,26 @@ public final class HeapTest {
         check.due("missing(2)", x.missing(2), CutOnce.OUTSIDE);
     }
 
+    /** Another `what` asks for no row: OUTSIDE for any i, whatever is lost or double. */
     private static void missedOfNoKind() {
+        check.due("new: missed(2, 1)", new CutOnce().missed(2, 1), CutOnce.OUTSIDE);
         CutOnce x = cut(3, 2, 1);
-        check.due("missed(2, 0): all are lost", x.missed(2, 0), CutOnce.OUTSIDE);
-        check.due("missed(-1, 5): all are lost", x.missed(-1, 5), CutOnce.OUTSIDE);
-        check.due("missed(2, -1): UNKNOWN comes first", x.missed(2, -1), CutOnce.UNKNOWN);
-        check.due("missed(2, 6): UNKNOWN comes first", x.missed(2, 6), CutOnce.UNKNOWN);
+        missedIsOutside("all are lost", x);
         x.heap(1);
-        check.due("missed(2, 0): no place in any row", x.missed(2, 0), CutOnce.UNKNOWN);
+        missedIsOutside("none is lost or double", x);
         x.lay(3, 3);
-        check.due("missed(2, 0): one is double", x.missed(2, 0), CutOnce.OUTSIDE);
-        check.due("missed(least, 0): one is double", x.missed(Integer.MIN_VALUE, 0), CutOnce.OUTSIDE);
+        missedIsOutside("one is double", x);
+        x.take(0);
+        x.take(0);
+        missedIsOutside("some are lost", x);
+    }
+
+    private static void missedIsOutside(String when, CutOnce x) {
+        for (int what : new int[] {Integer.MIN_VALUE, -1, 2, 3, Integer.MAX_VALUE}) {
+            for (int i : new int[] {Integer.MIN_VALUE, -1, 0, 1, 5, 6, Integer.MAX_VALUE}) {
+                check.due(when + ": missed(" + what + ", " + i + ")", x.missed(what, i), CutOnce.OUTSIDE);
+            }
+        }
     }
 
     private static void knowing() {

@@ -373,7 +373,7 @@ final class PlainCutOnce {
 
     int missed(int what, int i) {
         if (what != 0 && what != 1) {
-            return i >= 0 && i < Math.max(missing(0), missing(1)) ? OUTSIDE : UNKNOWN;
+            return OUTSIDE;
         }
         return i < 0 || i >= missing(what) ? UNKNOWN : missingOnes(what).get(i);
     }
