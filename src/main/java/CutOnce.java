@@ -236,8 +236,12 @@ public final class CutOnce {
     }
 
     public int missed(int what, int i) {
+        if (i < 0) {
+            // a place of no row at all, whatever row is asked for
+            return UNKNOWN;
+        }
         if (!isMissingWhat(what)) {
-            // asks for no row, so there is no place in it to be UNKNOWN
+            // asks for no row in which a place could be missing
             return OUTSIDE;
         }
         return missingPiece(what, i);

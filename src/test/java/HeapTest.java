@@ -169,24 +169,28 @@ public final class HeapTest {
         check.due("missing(2)", x.missing(2), CutOnce.OUTSIDE);
     }
 
-    /** Another `what` asks for no row: OUTSIDE for any i, whatever is lost or double. */
+    /** Another `what` asks for no row: OUTSIDE, whatever is lost or double; but below 0 there is a place of no row. */
     private static void missedOfNoKind() {
         check.due("new: missed(2, 1)", new CutOnce().missed(2, 1), CutOnce.OUTSIDE);
+        check.due("new: missed(2, -1)", new CutOnce().missed(2, -1), CutOnce.UNKNOWN);
         CutOnce x = cut(3, 2, 1);
-        missedIsOutside("all are lost", x);
+        missedIsRefused("all are lost", x);
         x.heap(1);
-        missedIsOutside("none is lost or double", x);
+        missedIsRefused("none is lost or double", x);
         x.lay(3, 3);
-        missedIsOutside("one is double", x);
+        missedIsRefused("one is double", x);
         x.take(0);
         x.take(0);
-        missedIsOutside("some are lost", x);
+        missedIsRefused("some are lost", x);
     }
 
-    private static void missedIsOutside(String when, CutOnce x) {
+    private static void missedIsRefused(String when, CutOnce x) {
         for (int what : new int[] {Integer.MIN_VALUE, -1, 2, 3, Integer.MAX_VALUE}) {
-            for (int i : new int[] {Integer.MIN_VALUE, -1, 0, 1, 5, 6, Integer.MAX_VALUE}) {
+            for (int i : new int[] {0, 1, 5, 6, 24, 25, Integer.MAX_VALUE}) {
                 check.due(when + ": missed(" + what + ", " + i + ")", x.missed(what, i), CutOnce.OUTSIDE);
+            }
+            for (int i : new int[] {Integer.MIN_VALUE, -2, -1}) {
+                check.due(when + ": missed(" + what + ", " + i + ")", x.missed(what, i), CutOnce.UNKNOWN);
             }
         }
     }

@@ -372,10 +372,13 @@ final class PlainCutOnce {
     }
 
     int missed(int what, int i) {
+        if (i < 0) {
+            return UNKNOWN;
+        }
         if (what != 0 && what != 1) {
             return OUTSIDE;
         }
-        return i < 0 || i >= missing(what) ? UNKNOWN : missingOnes(what).get(i);
+        return i >= missing(what) ? UNKNOWN : missingOnes(what).get(i);
     }
 
     private static final class Spent extends Exception {
