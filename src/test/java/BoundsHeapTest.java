@@ -537,6 +537,11 @@ public final class BoundsHeapTest {
         check.due("heaped(23, 1)", x.heaped(23, 1), 2);
     }
 
+    static void promise17_heaped_changesNothing(Check check) {
+        State.untouched(check, "heaped(0, 0)", x -> x.heaped(0, 0));
+        State.untouched(check, "heaped(6, 1)", x -> x.heaped(6, 1));
+    }
+
     static void promise17_heaped_UNKNOWN_noSuchPlace(Check check) {
         for (int i : new int[] {LEAST, -1, 7, 8, 25, MOST}) {
             refused(check, "heaped(" + i + ", 0)", x -> x.heaped(i, 0), CutOnce.UNKNOWN);
@@ -586,6 +591,11 @@ public final class BoundsHeapTest {
         check.due("one 25 times: missing(1)", x.missing(1), 1);
     }
 
+    static void promise18_missing_changesNothing(Check check) {
+        State.untouched(check, "missing(0)", x -> x.missing(0));
+        State.untouched(check, "missing(1)", x -> x.missing(1));
+    }
+
     static void promise18_missing_OUTSIDE_what(Check check) {
         for (int what : NO_WHAT) {
             refused(check, "missing(" + what + ")", x -> x.missing(what), CutOnce.OUTSIDE);
@@ -610,6 +620,10 @@ public final class BoundsHeapTest {
         check.due("missed(0, 2)", x.missed(0, 2), 4);
         check.due("missed(0, 20)", x.missed(0, 20), 23);
         check.due("missed(0, 21)", x.missed(0, 21), CutOnce.UNKNOWN);
+    }
+
+    static void promise19_missed_changesNothing(Check check) {
+        State.untouched(check, "missed(1, 0)", x -> x.missed(1, 0));
     }
 
     static void promise19_missed_UNKNOWN_noSuchPlace(Check check) {
@@ -930,6 +944,11 @@ public final class BoundsHeapTest {
         check.due("joined(25, 1)", x.joined(25, 1), CutOnce.UNKNOWN);
     }
 
+    static void promise22_joined_changesNothing(Check check) {
+        State.untouched(check, "joined(0, 0)", x -> x.joined(0, 0));
+        State.untouched(check, "joined(5, 1)", x -> x.joined(5, 1));
+    }
+
     static void promise22_joined_UNKNOWN_noSuchPlaceOfTheFrame(Check check) {
         for (int place : new int[] {LEAST, -1, 6, 7, 25, MOST}) {
             refused(check, "joined(" + place + ", 0)", x -> x.joined(place, 0), CutOnce.UNKNOWN);
@@ -1002,6 +1021,10 @@ public final class BoundsHeapTest {
         check.due("behind ways() again: trials()", x.trials(), 60000);
     }
 
+    static void promise23_trials_changesNothing(Check check) {
+        State.untouched(check, "trials()", x -> x.trials());
+    }
+
     static void promise23_trials_stayBehindAllButASEARCH(Check check) {
         CutOnce x = new CutOnce();
         x.lay(0, 0);
@@ -1066,6 +1089,18 @@ public final class BoundsHeapTest {
         check.due("known(24)", x.known(24), 10);
         check.due("known(4)", x.known(4), 0);
         check.due("known(20)", x.known(20), 0);
+    }
+
+    static void promise24_known_changesNothing(Check check) {
+        CutOnce x = State.full();
+        x.take(0);
+        x.take(0);
+        CutOnce twin = State.full();
+        twin.take(0);
+        twin.take(0);
+        int lost = x.missed(0, 0);
+        check.holds("known(" + lost + ") is told", x.known(lost) >= 0);
+        check.same("behind known(" + lost + ")", State.reading(x), State.reading(twin));
     }
 
     static void promise24_known_UNKNOWN_noSuchPIECE(Check check) {

@@ -200,6 +200,12 @@ public final class BoundsKindsTest {
         check.due("kind(40)", x.kind(40), CutOnce.UNKNOWN);
     }
 
+    static void promise10_kind_changesNothing(Check check) {
+        State.untouched(check, "kind(0)", x -> x.kind(0));
+        State.untouched(check, "kind(1)", x -> x.kind(1));
+        State.untouched(check, "kind(2)", x -> x.kind(2));
+    }
+
     static void promise10_kind_UNKNOWN_noSuchSIDE(Check check) {
         for (int side : new int[] {LEAST, -1, 7, 8, 40, MOST}) {
             State.refused(check, State::full, "kind(" + side + ")", x -> x.kind(side), CutOnce.UNKNOWN, State.STAYS);
@@ -272,10 +278,8 @@ public final class BoundsKindsTest {
         return least;
     }
 
-    static void promise11_unlike_leavesAllAsItIs(Check check) {
-        CutOnce x = State.full();
-        x.unlike();
-        check.same("behind unlike()", State.reading(x), State.reading(State.full()));
+    static void promise11_unlike_changesNothing(Check check) {
+        State.untouched(check, "unlike()", x -> x.unlike());
     }
 
     // ---- 12 traps
@@ -285,6 +289,11 @@ public final class BoundsKindsTest {
             State.refused(check, State::full, "traps(" + d + ")", x -> x.traps(d), CutOnce.OUTSIDE, State.STAYS);
         }
         check.due("1 by 1: traps(-1)", new CutOnce().traps(-1), CutOnce.OUTSIDE);
+    }
+
+    static void promise12_traps_changesNothing(Check check) {
+        State.untouched(check, "traps(0)", x -> x.traps(0));
+        State.untouched(check, "traps(90)", x -> x.traps(90));
     }
 
     static void promise12_traps_dOf0CountsThoseThatFIT(Check check) {

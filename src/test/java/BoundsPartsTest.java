@@ -342,6 +342,10 @@ public final class BoundsPartsTest {
 
     // ---- 33 trace
 
+    static void promise33_trace_changesNothing(Check check) {
+        State.untouched(check, "trace()", x -> x.trace());
+    }
+
     static void promise33_trace_staysBehindAllButTellAndMark(Check check) {
         CutOnce x = State.full();
         int trace = x.trace();
@@ -358,6 +362,10 @@ public final class BoundsPartsTest {
     }
 
     // ---- 34 fault
+
+    static void promise34_fault_changesNothing(Check check) {
+        State.untouched(check, "fault()", x -> x.fault());
+    }
 
     static void promise34_fault_0AheadOfAny(Check check) {
         CutOnce x = new CutOnce();
@@ -469,6 +477,14 @@ public final class BoundsPartsTest {
         for (int what = 0; what < 5; what++) {
             check.due("told(" + what + ")", x.told(what), due[what]);
         }
+    }
+
+    static void promise35_told_changesNothing(Check check) {
+        State.untouched(check, "told(0)", x -> x.told(0));
+        State.untouched(check, "told(1)", x -> x.told(1));
+        State.untouched(check, "told(2)", x -> x.told(2));
+        State.untouched(check, "told(3)", x -> x.told(3));
+        State.untouched(check, "told(4)", x -> x.told(4));
     }
 
     static void promise35_told_leastAndGreatest(Check check) {

@@ -512,6 +512,10 @@ public final class BoundsPicturesTest {
         }
     }
 
+    static void promise05_height_changesNothing(Check check) {
+        State.untouched(check, "height(1, 4)", x -> x.height(1, 4));
+    }
+
     static void promise05_height_LOST_noSuchSIDE(Check check) {
         for (int side : new int[] {LEAST, -1, 7, 8, 40, MOST}) {
             State.refused(check, State::full, "height(" + side + ", 0)", x -> x.height(side, 0), LOST, State.STAYS);
@@ -811,6 +815,11 @@ public final class BoundsPicturesTest {
         check.due("sideOf(24, 0)", x.sideOf(24, 0), 39);
     }
 
+    static void promise07_sideOf_changesNothing(Check check) {
+        State.untouched(check, "sideOf(0, 0)", x -> x.sideOf(0, 0));
+        State.untouched(check, "sideOf(4, 3)", x -> x.sideOf(4, 3));
+    }
+
     static void promise07_sideOf_UNKNOWN_noSuchPIECE(Check check) {
         for (int p : new int[] {LEAST, -1, 6, 7, 25, MOST}) {
             State.refused(check, State::full, "sideOf(" + p + ", 1)", x -> x.sideOf(p, 1), CutOnce.UNKNOWN, State.STAYS);
@@ -834,6 +843,11 @@ public final class BoundsPicturesTest {
             check.due("edge(1, 1, " + i + ")", x.edge(1, 1, i), right[i]);
             check.due("edge(1, 3, " + i + ")", x.edge(1, 3, i), left[i]);
         }
+    }
+
+    static void promise08_edge_changesNothing(Check check) {
+        State.untouched(check, "edge(0, 1, 0)", x -> x.edge(0, 1, 0));
+        State.untouched(check, "edge(4, 0, 4)", x -> x.edge(4, 0, 4));
     }
 
     static void promise08_edge_LOST_noSuchPIECE(Check check) {
@@ -896,6 +910,10 @@ public final class BoundsPicturesTest {
         // 3 -4 0 0 9 and 5 4 3 2 1; 1 2 3 4 5 and 9 0 0 -4 3
         check.due("far(0, 1, 1, 1)", x.far(0, 1, 1, 1), 8 + 0 + 3 + 2 + 10);
         check.due("far(1, 1, 0, 1)", x.far(1, 1, 0, 1), 10 + 2 + 3 + 0 + 8);
+    }
+
+    static void promise09_far_changesNothing(Check check) {
+        State.untouched(check, "far(0, 1, 4, 0)", x -> x.far(0, 1, 4, 0));
     }
 
     static void promise09_far_UNKNOWN_noSuchPIECE(Check check) {

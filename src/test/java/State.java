@@ -153,6 +153,23 @@ final class State {
         }
     }
 
+    /** A call that only asks leaves each thing as it is: each is read ahead of anything else that reading() asks. */
+    static void untouched(Check check, String name, Call call) {
+        Call[] reads = {
+            x -> x.trace(), x -> x.trials(), x -> x.fault(), x -> x.told(0), x -> x.told(4), x -> x.height(1, 4), x -> x.height(6, 0),
+            x -> x.heaped(0, 0), x -> x.heaped(6, 1), x -> x.joined(0, 0), x -> x.joined(5, 1),
+            x -> x.cell(0, 5, 0), x -> x.cell(1, 11, 1), x -> x.cell(2, 2, 2), x -> x.lose(3)};
+        for (int i = 0; i < reads.length; i++) {
+            CutOnce x = faultedBy(full(), 4);
+            long first = call.on(x);
+            check.due(name + " asked again", call.on(x), first);
+            check.due(name + " leaves what is read as number " + i, reads[i].on(x), reads[i].on(faultedBy(full(), 4)));
+        }
+        CutOnce x = faultedBy(full(), 4);
+        call.on(x);
+        check.same("behind " + name, reading(x), reading(faultedBy(full(), 4)));
+    }
+
     private static CutOnce faultedBy(CutOnce x, int fault) {
         if (fault == 1) {
             x.put(3, 0, 0);
