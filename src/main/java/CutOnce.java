@@ -41,7 +41,7 @@ public final class CutOnce {
         theSearch = new Search(thePicture, thePile);
         theDraw = new Draw();
         sheets = new Sheet[SHEETS];
-        for (int k = 0; k < SHEETS; k++) {
+        for (int k = 0; k < sheets.length; k++) {
             sheets[k] = new Sheet();
         }
     }
@@ -553,13 +553,20 @@ public final class CutOnce {
         }
 
         private void layEdges(int x, int y) {
-            int at = (w * y + x) * EDGES;
+            int p = w * y + x;
             int across = (w - 1) * y + x;
             int down = (w - 1) * h + w * y + x;
-            sideOfEdge[at + ABOVE] = y == 0 ? NONE : down - w;
-            sideOfEdge[at + RIGHT] = x == w - 1 ? NONE : across;
-            sideOfEdge[at + BELOW] = y == h - 1 ? NONE : down;
-            sideOfEdge[at + LEFT] = x == 0 ? NONE : across - 1;
+            setSide(p, ABOVE, y == 0 ? NONE : down - w);
+            setSide(p, RIGHT, x == w - 1 ? NONE : across);
+            setSide(p, BELOW, y == h - 1 ? NONE : down);
+            setSide(p, LEFT, x == 0 ? NONE : across - 1);
+        }
+
+        private void setSide(int p, int e, int side) {
+            int at = p * EDGES + e;
+            if (at >= 0 && at < sideOfEdge.length) {
+                sideOfEdge[at] = side;
+            }
         }
 
         int width() {
@@ -840,11 +847,11 @@ public final class CutOnce {
         }
 
         int joinedFrom(int place) {
-            return goal.hasPiece(place) ? joinedLying[place] / EDGES : UNKNOWN;
+            return look(joinedLying, place) / EDGES;
         }
 
         int joinedTurn(int place) {
-            return goal.hasPiece(place) ? joinedLying[place] % EDGES : UNKNOWN;
+            return look(joinedLying, place) % EDGES;
         }
 
         int countWays() {
@@ -859,14 +866,14 @@ public final class CutOnce {
             }
             joinedOnce = found > 0;
             for (int place = 0; joinedOnce && place < goal.pieces(); place++) {
-                joinedLying[place] = lying[place];
+                note(joinedLying, place, look(lying, place));
             }
             return found;
         }
 
         private void run(boolean onlyTheFirst) {
             for (int i = 0; i < pile.size(); i++) {
-                used[i] = false;
+                use(i, false);
                 readEdges(i);
             }
             firstOnly = onlyTheFirst;
@@ -885,8 +892,8 @@ public final class CutOnce {
                 for (int turn = 0; turn < EDGES; turn++) {
                     int direction = (e + pile.turnAt(i) + turn) % EDGES;
                     int at = (i * EDGES + turn) * EDGES + direction;
-                    shown[at] = code;
-                    fitting[at] = mate;
+                    note(shown, at, code);
+                    note(fitting, at, mate);
                 }
             }
         }
@@ -917,17 +924,17 @@ public final class CutOnce {
             }
             lookAround(place);
             for (int i = 0; i < pile.size(); i++) {
-                for (int turn = 0; turn < EDGES && !used[i]; turn++) {
+                for (int turn = 0; turn < EDGES && !isUsed(i); turn++) {
                     if (trialCount >= MOST_TRIALS) {
                         spent = true;
                         return;
                     }
                     trialCount++;
-                    lying[place] = i * EDGES + turn;
+                    note(lying, place, i * EDGES + turn);
                     if (fits(place)) {
-                        used[i] = true;
+                        use(i, true);
                         fillFrom(place + 1);
-                        used[i] = false;
+                        use(i, false);
                     }
                     if (spent || firstOnly && found > 0) {
                         return;
@@ -945,21 +952,41 @@ public final class CutOnce {
                     // the frame's places are the picture's: its border is where the picture's is
                     want = FLAT;
                 } else if (next >= 0 && next < place) {
-                    want = fitting[lying[next] * EDGES + (direction + 2) % EDGES];
+                    want = look(fitting, look(lying, next) * EDGES + (direction + 2) % EDGES);
                 }
-                wanted[place * EDGES + direction] = want;
+                note(wanted, place * EDGES + direction, want);
             }
         }
 
         private boolean fits(int place) {
             for (int direction = 0; direction < EDGES; direction++) {
-                int want = wanted[place * EDGES + direction];
-                int shows = shown[lying[place] * EDGES + direction];
+                int want = look(wanted, place * EDGES + direction);
+                int shows = look(shown, look(lying, place) * EDGES + direction);
                 if (want == ANY ? shows == FLAT : shows != want) {
                     return false;
                 }
             }
             return true;
+        }
+
+        private boolean isUsed(int i) {
+            return i >= 0 && i < used.length && used[i];
+        }
+
+        private void use(int i, boolean so) {
+            if (i >= 0 && i < used.length) {
+                used[i] = so;
+            }
+        }
+
+        private static int look(int[] row, int at) {
+            return at >= 0 && at < row.length ? row[at] : 0;
+        }
+
+        private static void note(int[] row, int at, int v) {
+            if (at >= 0 && at < row.length) {
+                row[at] = v;
+            }
         }
     }
 
@@ -986,8 +1013,8 @@ public final class CutOnce {
         void renew(int ofLane, int n) {
             there = true;
             lane = ofLane;
-            length = Math.min(Math.max(0, n), MOST_CELLS);
-            for (int i = 0; i < MOST_CELLS; i++) {
+            length = Math.min(Math.max(0, n), cells.length);
+            for (int i = 0; i < cells.length; i++) {
                 cells[i] = 0;
             }
         }

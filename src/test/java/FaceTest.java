@@ -6,35 +6,53 @@ import java.lang.reflect.Modifier;
 import java.nio.charset.StandardCharsets;
 import java.nio.file.Files;
 import java.nio.file.Path;
-import java.util.Set;
+import java.util.ArrayList;
+import java.util.Arrays;
+import java.util.List;
+import java.util.Map;
 import java.util.TreeMap;
-import java.util.TreeSet;
-import java.util.regex.Matcher;
-import java.util.regex.Pattern;
 
-/** The public face that the document prints, and those rules of LANGUAGE.md that a look at the class and its text can tell. */
+/** 'The public face' of the document: the class, its constants, its constructor, each method with its types and parameters. */
 public final class FaceTest {
-    private static final Check check = new Check("FaceTest");
-    private static final String[] METHODS = {
-        "int picture(int, int)", "int make(long)", "long bend(int, int, int)", "long height(int, int)",
-        "int shape(int, int, int, int, int)", "int sideOf(int, int)", "long edge(int, int, int)",
-        "int far(int, int, int, int)", "int kind(int)", "int unlike()", "int traps(int)", "int alike(int, int, int)",
-        "int lay(int, int)", "int heap(long)", "int take(int)", "int heaped(int, int)", "int missing(int)",
-        "int missed(int, int)", "int ways()", "int join()", "int joined(int, int)", "int trials()", "int known(int)",
-        "int sheet(int, int, int)", "int lose(int)", "int put(int, int, int)", "long cell(int, int, int)",
-        "int copy(int, int, int, int, int)", "int tell(int)", "int mark(int)", "int as(int, int)", "int trace()",
-        "int fault()", "int told(int)"};
+    /** The methods as the document writes them, in its order. */
+    static final String[] METHODS = {
+        "int picture(int w, int h)", "int make(long seed)", "long bend(int side, int i, int v)", "long height(int side, int i)",
+        "int shape(int k, int lane, int i, int n, int s)", "int sideOf(int p, int e)", "long edge(int p, int e, int i)",
+        "int far(int p, int e, int q, int f)",
+        "int kind(int side)", "int unlike()", "int traps(int d)", "int alike(int a, int b, int way)",
+        "int lay(int p, int turn)", "int heap(long seed)", "int take(int i)", "int heaped(int i, int what)", "int missing(int what)",
+        "int missed(int what, int i)", "int ways()", "int join()", "int joined(int place, int what)", "int trials()",
+        "int known(int p)",
+        "int sheet(int k, int lane, int n)", "int lose(int k)", "int put(int k, int i, int v)", "long cell(int k, int i, int lane)",
+        "int copy(int k, int i, int other, int j, int n)", "int tell(int side)", "int mark(int side)", "int as(int side, int kind)",
+        "int trace()", "int fault()", "int told(int what)"};
 
-    public static void main(String[] args) throws IOException {
-        constants();
-        methods();
-        constructor();
-        classesInside();
-        text(Files.readString(Path.of("src/main/java/CutOnce.java"), StandardCharsets.ISO_8859_1));
-        check.end();
+    static final Map<String, Long> CONSTANTS =
+        Map.of("UNKNOWN", -1L, "OUTSIDE", -2L, "STATE", -3L, "FULL", -4L, "SPENT", -6L, "NONE", -9L, "LOST", Long.MIN_VALUE);
+
+    private static final String[][] HEADS = {
+        {"1 pictures", "picture"}, {"2 kinds", "kind"}, {"3 the heap", "lay"}, {"4 sheets, parts", "sheet"}};
+
+    public static void main(String[] args) {
+        Sentences.holdAll(FaceTest.class);
     }
 
-    private static void constants() {
+    static String sourceText() {
+        try {
+            return Files.readString(Path.of("src/main/java/CutOnce.java"), StandardCharsets.ISO_8859_1);
+        } catch (IOException unreadable) {
+            return "";
+        }
+    }
+
+    static void face_theClassIsPublicAndFinal(Check check) {
+        int m = CutOnce.class.getModifiers();
+        check.holds("the class is public and final", Modifier.isPublic(m) && Modifier.isFinal(m));
+        check.holds("it extends nothing", CutOnce.class.getSuperclass() == Object.class);
+        check.due("interfaces", CutOnce.class.getInterfaces().length, 0);
+    }
+
+    static void face_constantsAndTheirValues(Check check) {
         check.due("UNKNOWN", CutOnce.UNKNOWN, -1);
         check.due("OUTSIDE", CutOnce.OUTSIDE, -2);
         check.due("STATE", CutOnce.STATE, -3);
@@ -42,73 +60,83 @@ public final class FaceTest {
         check.due("SPENT", CutOnce.SPENT, -6);
         check.due("NONE", CutOnce.NONE, -9);
         check.due("LOST", CutOnce.LOST, Long.MIN_VALUE);
-        Set<String> open = new TreeSet<>();
+    }
+
+    static void face_noOtherFieldIsOpen(Check check) {
+        int open = 0;
         for (Field field : CutOnce.class.getDeclaredFields()) {
             int m = field.getModifiers();
-            if (!Modifier.isPrivate(m)) {
-                open.add(field.getType() + " " + field.getName());
-                check.holds(field + " is public static final", Modifier.isPublic(m) && Modifier.isStatic(m) && Modifier.isFinal(m));
-            }
-            check.holds(field + ": static ones are final", !Modifier.isStatic(m) || Modifier.isFinal(m));
-        }
-        Set<String> due = Set.of("int UNKNOWN", "int OUTSIDE", "int STATE", "int FULL", "int SPENT", "int NONE", "long LOST");
-        check.holds("the constants are those of the document: " + open, open.equals(due));
-    }
-
-    private static void methods() {
-        TreeMap<String, Boolean> open = new TreeMap<>();
-        Set<String> names = new TreeSet<>();
-        for (String method : METHODS) {
-            names.add(method.substring(method.indexOf(' ') + 1, method.indexOf('(')));
-        }
-        for (Method method : CutOnce.class.getDeclaredMethods()) {
-            int m = method.getModifiers();
             if (Modifier.isPrivate(m)) {
-                check.holds(method + " bears no public name", !names.contains(method.getName()));
                 continue;
             }
-            StringBuilder types = new StringBuilder();
-            for (Class<?> type : method.getParameterTypes()) {
-                types.append(types.length() == 0 ? "" : ", ").append(type);
-            }
-            boolean plain = Modifier.isPublic(m) && !Modifier.isStatic(m);
-            open.put(method.getReturnType() + " " + method.getName() + "(" + types + ")", plain);
+            open++;
+            check.holds(field + " is one of the document", CONSTANTS.containsKey(field.getName()));
+            check.holds(field + " is public static final", Modifier.isPublic(m) && Modifier.isStatic(m) && Modifier.isFinal(m));
+            check.holds(field + " is of its type", field.getType() == (field.getName().equals("LOST") ? long.class : int.class));
         }
-        check.holds("the methods are those of the document: " + open.keySet(), open.keySet().equals(new TreeSet<>(Set.of(METHODS))));
-        check.holds("the methods are public, of the object", !open.containsValue(false));
+        check.due("open fields", open, CONSTANTS.size());
     }
 
-    private static void constructor() {
+    static void face_oneConstructorWithoutParameters(Check check) {
         Constructor<?>[] all = CutOnce.class.getDeclaredConstructors();
         check.due("constructors", all.length, 1);
-        check.holds("it is public, without arguments", Modifier.isPublic(all[0].getModifiers()) && all[0].getParameterCount() == 0);
-        int m = CutOnce.class.getModifiers();
-        check.holds("the class is public and final", Modifier.isPublic(m) && Modifier.isFinal(m));
+        check.holds("it is public, without parameters", Modifier.isPublic(all[0].getModifiers()) && all[0].getParameterCount() == 0);
+        check.due("what it throws", all[0].getExceptionTypes().length, 0);
     }
 
-    private static void classesInside() {
-        Class<?>[] inside = CutOnce.class.getDeclaredClasses();
-        check.holds("some twelve classes", inside.length <= 11);
-        for (Class<?> one : inside) {
-            int m = one.getModifiers();
-            check.holds(one + " is static, not public", Modifier.isStatic(m) && !Modifier.isPublic(m) && !Modifier.isProtected(m));
-            check.holds(one + " has no class inside", one.getDeclaredClasses().length == 0);
-            for (Method method : one.getDeclaredMethods()) {
-                check.holds(method + ": at most seven parameters", method.getParameterCount() <= 7);
+    static void face_methodsWithTheirTypesAndNoOther(Check check) {
+        Map<String, Method> open = new TreeMap<>();
+        for (Method method : CutOnce.class.getDeclaredMethods()) {
+            if (!Modifier.isPrivate(method.getModifiers())) {
+                open.put(withTypes(method), method);
+            }
+        }
+        check.due("open methods", open.size(), METHODS.length);
+        for (String line : METHODS) {
+            Method method = open.get(line.replaceAll("(int|long) \\w+(?=[,)])", "$1"));
+            check.holds("there is " + line, method != null);
+            if (method != null) {
+                int m = method.getModifiers();
+                check.holds(line + " is public, of the object", Modifier.isPublic(m) && !Modifier.isStatic(m));
+                check.due("what it throws: " + line, method.getExceptionTypes().length, 0);
             }
         }
     }
 
-    /** Words that LANGUAGE.md rules out, outside comments. */
-    private static void text(String text) {
-        check.holds("signs 1 to 126 alone", text.chars().allMatch(c -> c == '\n' || c >= 32 && c < 127));
-        String code = text.replaceAll("(?s)/\\*.*?\\*/", " ").replaceAll("//[^\n]*", " ");
-        Pattern ruledOut = Pattern.compile("\\b(throw|throws|try|catch|synchronized|assert|import|package|protected|hashCode|toString|System\\.(?!arraycopy)\\w+|"
-            + "Object|Thread|Random|Exception|Error|\\w+Exact|transient|volatile|native|var|yield|goto)\\b|->|::|@");
-        Matcher found = ruledOut.matcher(code);
-        while (found.find()) {
-            check.holds("ruled out: " + found.group(), false);
+    private static String withTypes(Method method) {
+        List<String> types = new ArrayList<>();
+        for (Class<?> type : method.getParameterTypes()) {
+            types.add(type.toString());
         }
-        check.holds("no text is joined by +", !code.contains("\""));
+        return method.getReturnType() + " " + method.getName() + "(" + String.join(", ", types) + ")";
+    }
+
+    static void face_parametersAreNamedAsThere(Check check) {
+        String text = sourceText();
+        for (String line : METHODS) {
+            check.holds("the class writes: public " + line, text.contains("\n    public " + line + " {\n"));
+        }
+    }
+
+    static void face_theOrderOfTheCallsAndTheHeadsAheadOfThem(Check check) {
+        String text = sourceText();
+        List<String> due = new ArrayList<>();
+        for (String line : METHODS) {
+            String name = line.substring(line.indexOf(' ') + 1, line.indexOf('('));
+            for (String[] head : HEADS) {
+                if (head[1].equals(name)) {
+                    due.add("// ---- " + head[0] + "\n");
+                }
+            }
+            due.add("public " + line);
+        }
+        int[] at = new int[due.size()];
+        for (int i = 0; i < at.length; i++) {
+            at[i] = text.indexOf(due.get(i));
+            check.holds("there is once: " + due.get(i), at[i] >= 0 && text.indexOf(due.get(i), at[i] + 1) < 0);
+        }
+        int[] sorted = at.clone();
+        Arrays.sort(sorted);
+        check.holds("they stand in the document's order", Arrays.equals(at, sorted));
     }
 }

@@ -5,7 +5,8 @@ import java.util.Comparator;
 
 /**
  * Runs tests that hold one sentence of the document each: the static methods of a class with a Check for their argument.
- * Their names tell the promise (or the part of 'Terms', or 'What it is'), the call, and the sentence.
+ * Their names tell the promise (or the part of 'Terms', 'What it is', 'The public face', or the rule of LANGUAGE.md),
+ * the call, and the sentence.
  */
 final class Sentences {
     private Sentences() {
@@ -17,7 +18,7 @@ final class Sentences {
         Arrays.sort(all, Comparator.comparing(Method::getName));
         int held = 0;
         for (Method method : all) {
-            if (method.getName().matches("(promise\\d\\d|terms|whatItIs)_.*")) {
+            if (method.getName().matches("(promise\\d\\d|terms|whatItIs|face|rule\\d\\d)_.*")) {
                 check.begin(method.getName());
                 holdOne(check, method);
                 held++;
