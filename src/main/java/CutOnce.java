@@ -872,8 +872,10 @@ public final class CutOnce {
         }
 
         private void run(boolean onlyTheFirst) {
+            for (int i = 0; i < used.length; i++) {
+                used[i] = false;
+            }
             for (int i = 0; i < pile.size(); i++) {
-                use(i, false);
                 readEdges(i);
             }
             firstOnly = onlyTheFirst;
@@ -923,18 +925,22 @@ public final class CutOnce {
                 return;
             }
             lookAround(place);
-            for (int i = 0; i < pile.size(); i++) {
-                for (int turn = 0; turn < EDGES && !isUsed(i); turn++) {
+            int heaped = Math.min(pile.size(), used.length);
+            for (int i = 0; i < heaped; i++) {
+                if (used[i]) {
+                    continue;
+                }
+                for (int turn = 0; turn < EDGES; turn++) {
                     if (trialCount >= MOST_TRIALS) {
                         spent = true;
                         return;
                     }
                     trialCount++;
-                    note(lying, place, i * EDGES + turn);
-                    if (fits(place)) {
-                        use(i, true);
+                    if (fits(place, i * EDGES + turn)) {
+                        note(lying, place, i * EDGES + turn);
+                        used[i] = true;
                         fillFrom(place + 1);
-                        use(i, false);
+                        used[i] = false;
                     }
                     if (spent || firstOnly && found > 0) {
                         return;
@@ -945,38 +951,37 @@ public final class CutOnce {
 
         /** Sets down what one must show at a place to fit the border and those that lie there already. */
         private void lookAround(int place) {
+            int asked = place * EDGES;
+            if (asked < 0 || asked > wanted.length - EDGES) {
+                return;
+            }
             for (int direction = 0; direction < EDGES; direction++) {
                 int next = goal.nextTo(place, direction);
                 int want = ANY;
                 if (goal.isFlat(place, direction)) {
                     // the frame's places are the picture's: its border is where the picture's is
                     want = FLAT;
-                } else if (next >= 0 && next < place) {
+                } else if (next < place) {
                     want = look(fitting, look(lying, next) * EDGES + (direction + 2) % EDGES);
                 }
-                note(wanted, place * EDGES + direction, want);
+                wanted[asked + direction] = want;
             }
         }
 
-        private boolean fits(int place) {
+        private boolean fits(int place, int lies) {
+            int asked = place * EDGES;
+            int answered = lies * EDGES;
+            if (asked < 0 || asked > wanted.length - EDGES || answered < 0 || answered > shown.length - EDGES) {
+                return false;
+            }
             for (int direction = 0; direction < EDGES; direction++) {
-                int want = look(wanted, place * EDGES + direction);
-                int shows = look(shown, look(lying, place) * EDGES + direction);
+                int want = wanted[asked + direction];
+                int shows = shown[answered + direction];
                 if (want == ANY ? shows == FLAT : shows != want) {
                     return false;
                 }
             }
             return true;
-        }
-
-        private boolean isUsed(int i) {
-            return i >= 0 && i < used.length && used[i];
-        }
-
-        private void use(int i, boolean so) {
-            if (i >= 0 && i < used.length) {
-                used[i] = so;
-            }
         }
 
         private static int look(int[] row, int at) {
